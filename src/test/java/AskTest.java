@@ -1,0 +1,307 @@
+import java.util.NoSuchElementException;
+
+/** Promises 5 to 9: holds, count, first, length, witness, and what each kind of formula means. */
+public final class AskTest {
+    private static final Check CHECK = new Check();
+    private static final Class<IllegalArgumentException> ARGUMENT = IllegalArgumentException.class;
+    private static final Class<IndexOutOfBoundsException> INDEX = IndexOutOfBoundsException.class;
+    private static final Class<NoSuchElementException> ELEMENT = NoSuchElementException.class;
+    private static final int[] NO_FORMULA = {2, -1, 60, Integer.MAX_VALUE, Integer.MIN_VALUE};
+    private static final int[] NO_STATE = {8, -1, 256, Integer.MAX_VALUE, Integer.MIN_VALUE};
+
+    public static void main(String[] args) {
+        kindsWithoutSteps();
+        next();
+        until();
+        always();
+        again();
+        rulesOfNow();
+        firstLooksFromAState();
+        askersRefuse();
+        leastOfShortestRows();
+        longestRow();
+        witnessAfterOtherFormulas();
+        rowAskersRefuse();
+        CHECK.end();
+    }
+
+    /** A rule that takes one state to one state. */
+    private static void step(StateLogic logic, int all, int from, int to) {
+        logic.rule(all, from, 0, to);
+    }
+
+    private static void kindsWithoutSteps() {
+        StateLogic logic = new StateLogic();
+        logic.begin(3);
+        logic.formula(0, 5, 4);
+        logic.formula(0, 3, 2);
+        logic.formula(1, 0, 0);
+        logic.formula(2, 0, 1);
+        logic.formula(3, 0, 1);
+        CHECK.same("ATOM", Check.states(logic, 0, 8), "4 6");
+        CHECK.same("ATOM", Check.states(logic, 1, 8), "2 6");
+        CHECK.same("NOT", Check.states(logic, 2, 8), "0 1 2 3 5 7");
+        CHECK.same("AND", Check.states(logic, 3, 8), "6");
+        CHECK.same("OR", Check.states(logic, 4, 8), "2 4 6");
+        CHECK.same("count of ATOM", logic.count(0), 2);
+        CHECK.same("count of NOT", logic.count(2), 6);
+        CHECK.same("count of AND", logic.count(3), 1);
+        CHECK.same("count of OR", logic.count(4), 3);
+    }
+
+    private static void next() {
+        StateLogic logic = new StateLogic();
+        logic.begin(3);
+        step(logic, 7, 0, 1);
+        step(logic, 7, 0, 2);
+        step(logic, 7, 3, 2);
+        step(logic, 7, 2, 2);
+        logic.formula(0, 7, 2);
+        logic.formula(4, 0, 0);
+        logic.formula(1, 0, 0);
+        logic.formula(4, 2, 0);
+        CHECK.same("NEXT", Check.states(logic, 1, 8), "0 2 3");
+        CHECK.same("NEXT of NOT", Check.states(logic, 3, 8), "0");
+    }
+
+    private static void until() {
+        StateLogic logic = new StateLogic();
+        logic.begin(3);
+        for (int state = 0; state < 4; state++) {
+            step(logic, 7, state, state + 1);
+        }
+        logic.formula(0, 4, 0);
+        logic.formula(0, 7, 4);
+        logic.formula(5, 0, 1);
+        CHECK.same("UNTIL: the last needn't have x", Check.states(logic, 2, 8), "0 1 2 3 4");
+        CHECK.same("UNTIL: a row", Check.row(logic, 2, 0), "0 1 2 3 4");
+        CHECK.same("UNTIL: of s alone", Check.row(logic, 2, 4), "4");
+        CHECK.same("UNTIL: none", logic.length(2, 5), 0);
+        logic.formula(0, 7, 2);
+        logic.formula(1, 3, 0);
+        logic.formula(5, 4, 1);
+        CHECK.same("UNTIL: x fails on the way", Check.states(logic, 5, 8), "3 4");
+        logic.formula(5, 1, 3);
+        CHECK.same("UNTIL: y alone", Check.states(logic, 6, 8), "2");
+    }
+
+    private static void always() {
+        StateLogic logic = new StateLogic();
+        logic.begin(3);
+        logic.formula(0, 0, 0);
+        logic.formula(6, 0, 0);
+        step(logic, 7, 0, 1);
+        step(logic, 7, 1, 2);
+        step(logic, 7, 2, 3);
+        CHECK.same("ALWAYS: ended rows", Check.states(logic, 1, 8), "");
+        step(logic, 7, 3, 1);
+        step(logic, 7, 4, 4);
+        step(logic, 7, 2, 7);
+        CHECK.same("ALWAYS: a ring, a way to it, a state by itself", Check.states(logic, 1, 8), "0 1 2 3 4");
+        logic.formula(0, 7, 3);
+        logic.formula(1, 2, 0);
+        logic.formula(6, 3, 0);
+        CHECK.same("ALWAYS: the ring is broken", Check.states(logic, 4, 8), "4");
+    }
+
+    private static void again() {
+        StateLogic logic = new StateLogic();
+        logic.begin(4);
+        step(logic, 15, 0, 1);
+        step(logic, 15, 1, 2);
+        step(logic, 15, 2, 1);
+        step(logic, 15, 2, 3);
+        step(logic, 15, 3, 4);
+        step(logic, 15, 4, 4);
+        step(logic, 15, 5, 6);
+        step(logic, 15, 6, 5);
+        logic.formula(0, 0, 0);
+        logic.formula(0, 15, 2);
+        logic.formula(7, 0, 1);
+        CHECK.same("AGAIN: the ring of 2", Check.states(logic, 2, 16), "0 1 2");
+        logic.formula(0, 15, 3);
+        logic.formula(7, 0, 3);
+        CHECK.same("AGAIN: 3 only once", Check.states(logic, 4, 16), "");
+        logic.formula(0, 15, 4);
+        logic.formula(7, 0, 5);
+        CHECK.same("AGAIN: 4 by itself", Check.states(logic, 6, 16), "0 1 2 3 4");
+        logic.formula(1, 3, 0);
+        logic.formula(7, 7, 5);
+        CHECK.same("AGAIN: no way round 3", Check.states(logic, 8, 16), "4");
+        logic.formula(1, 1, 0);
+        logic.formula(7, 9, 1);
+        CHECK.same("AGAIN: y without x", Check.states(logic, 10, 16), "");
+        logic.formula(0, 15, 7);
+        logic.formula(7, 0, 11);
+        CHECK.same("AGAIN: y that ends", Check.states(logic, 12, 16), "");
+    }
+
+    private static void rulesOfNow() {
+        StateLogic logic = new StateLogic();
+        logic.begin(2);
+        logic.formula(0, 3, 3);
+        logic.formula(0, 0, 0);
+        logic.formula(5, 1, 0);
+        logic.formula(6, 1, 0);
+        logic.formula(1, 2, 0);
+        CHECK.same("before rules: UNTIL", Check.states(logic, 2, 4), "3");
+        CHECK.same("before rules: NOT of it", logic.count(4), 3);
+        CHECK.same("before rules: length", logic.length(2, 0), 0);
+        step(logic, 3, 0, 2);
+        CHECK.same("one rule: NOT of it", logic.count(4), 3);
+        step(logic, 3, 2, 3);
+        CHECK.same("two rules: length", logic.length(2, 0), 3);
+        CHECK.same("two rules: NOT of it", logic.count(4), 1);
+        step(logic, 3, 0, 3);
+        CHECK.same("three rules: length", logic.length(2, 0), 2);
+        CHECK.same("three rules: ALWAYS", logic.count(3), 0);
+        step(logic, 3, 3, 0);
+        CHECK.same("four rules: ALWAYS", logic.count(3), 3);
+    }
+
+    private static void firstLooksFromAState() {
+        StateLogic logic = new StateLogic();
+        logic.begin(8);
+        logic.formula(0, 63, 63);
+        for (int state = 0; state < 256; state++) {
+            CHECK.same("first(0, " + state + ")", logic.first(0, state), state | 63);
+        }
+        logic.formula(0, 255, 64);
+        CHECK.same("first: of one", logic.first(1, 0), 64);
+        CHECK.same("first: itself", logic.first(1, 64), 64);
+        CHECK.same("first: none from here on", logic.first(1, 65), StateLogic.NONE);
+        logic.formula(2, 0, 1);
+        CHECK.same("first: none", logic.first(2, 0), StateLogic.NONE);
+        logic.begin(1);
+        logic.formula(0, 1, 1);
+        logic.formula(1, 0, 0);
+        CHECK.same("first of NOT", logic.first(1, 0), 0);
+        CHECK.same("no state beyond the last", logic.first(1, 1), StateLogic.NONE);
+    }
+
+    private static void askersRefuse() {
+        StateLogic logic = new StateLogic();
+        logic.begin(3);
+        logic.formula(0, 0, 0);
+        logic.formula(5, 0, 0);
+        for (int bad : NO_FORMULA) {
+            CHECK.refused("holds(" + bad + ", 0)", INDEX, () -> logic.holds(bad, 0));
+            CHECK.refused("count(" + bad + ")", INDEX, () -> logic.count(bad));
+            CHECK.refused("first(" + bad + ", 0)", INDEX, () -> logic.first(bad, 0));
+        }
+        for (int bad : NO_STATE) {
+            CHECK.refused("holds(0, " + bad + ")", INDEX, () -> logic.holds(0, bad));
+            CHECK.refused("first(0, " + bad + ")", INDEX, () -> logic.first(0, bad));
+        }
+    }
+
+    private static void leastOfShortestRows() {
+        StateLogic logic = new StateLogic();
+        logic.begin(4);
+        int[][] steps = {
+            {0, 9}, {0, 5}, {0, 3}, {0, 1}, {1, 2}, {2, 4}, {4, 15}, {3, 14}, {3, 8}, {5, 7}, {5, 6},
+            {6, 15}, {7, 15}, {9, 1}, {9, 10}, {10, 15}, {14, 13}, {13, 15}, {15, 0},
+        };
+        for (int[] pair : steps) {
+            step(logic, 15, pair[0], pair[1]);
+        }
+        logic.formula(0, 0, 0);
+        logic.formula(0, 15, 15);
+        logic.formula(5, 0, 1);
+        CHECK.same("of shortest rows the least", Check.row(logic, 2, 0), "0 5 6 15");
+        CHECK.same("shorter before least", Check.row(logic, 2, 9), "9 10 15");
+        CHECK.same("s alone", Check.row(logic, 2, 15), "15");
+        CHECK.same("no row", Check.row(logic, 2, 8), "");
+        logic.formula(0, 15, 5);
+        logic.formula(1, 3, 0);
+        logic.formula(5, 4, 1);
+        CHECK.same("x bars the least", Check.row(logic, 5, 0), "0 9 10 15");
+        CHECK.same("x bars s", Check.row(logic, 5, 5), "");
+    }
+
+    private static void longestRow() {
+        StateLogic logic = new StateLogic();
+        logic.begin(8);
+        // A counter: the lowest bit that is 0 becomes 1, those below it 0.
+        for (int bit = 0; bit < 8; bit++) {
+            int mask = (2 << bit) - 1;
+            logic.rule(mask, mask >> 1, 255 & ~mask, 1 << bit);
+        }
+        logic.formula(0, 0, 0);
+        logic.formula(0, 255, 255);
+        logic.formula(5, 0, 1);
+        CHECK.same("256 states", logic.length(2, 0), 256);
+        for (int k = 0; k < 256; k++) {
+            CHECK.same("state " + k, logic.witness(2, 0, k), k);
+        }
+        CHECK.refused("state 256", ELEMENT, () -> logic.witness(2, 0, 256));
+        logic.formula(6, 0, 0);
+        logic.formula(7, 0, 1);
+        CHECK.same("it ends", logic.count(3) + logic.count(4), 0);
+        logic.rule(255, 255, 255, 0);
+        CHECK.same("255 goes to itself", logic.count(3), 256);
+        CHECK.same("255 again", logic.count(4), 256);
+        logic.formula(1, 1, 0);
+        logic.formula(7, 0, 5);
+        CHECK.same("another than 255 again", logic.count(6), 0);
+    }
+
+    private static void witnessAfterOtherFormulas() {
+        StateLogic logic = new StateLogic();
+        logic.begin(2);
+        logic.rule(0, 0, 3, 1);
+        logic.rule(0, 0, 3, 2);
+        logic.formula(0, 0, 0);
+        logic.formula(0, 3, 3);
+        logic.formula(0, 3, 0);
+        logic.formula(5, 0, 1);
+        logic.formula(5, 0, 2);
+        logic.formula(7, 0, 2);
+        CHECK.same("one UNTIL", Check.row(logic, 3, 0), "0 1 3");
+        CHECK.same("another UNTIL", Check.row(logic, 4, 3), "3 1 0");
+        CHECK.same("the one again", Check.row(logic, 3, 2), "2 3");
+        CHECK.same("an AGAIN between", logic.count(5), 4);
+        CHECK.same("the one once more", Check.row(logic, 3, 0), "0 1 3");
+        logic.begin(2);
+        logic.formula(0, 0, 0);
+        logic.formula(0, 3, 0);
+        logic.formula(0, 3, 3);
+        logic.formula(5, 0, 1);
+        CHECK.same("the same number, anew", Check.row(logic, 3, 0), "0");
+        CHECK.same("no row to 0", logic.length(3, 3), 0);
+    }
+
+    private static void rowAskersRefuse() {
+        StateLogic logic = new StateLogic();
+        logic.begin(3);
+        step(logic, 7, 0, 1);
+        logic.formula(0, 7, 1);
+        logic.formula(5, 0, 0);
+        for (int bad : NO_FORMULA) {
+            CHECK.refused("length(" + bad + ", 0)", INDEX, () -> logic.length(bad, 0));
+            CHECK.refused("witness(" + bad + ", 0, 0)", INDEX, () -> logic.witness(bad, 0, 0));
+            CHECK.refused("witness(" + bad + ", 8, -1)", INDEX, () -> logic.witness(bad, 8, -1));
+        }
+        for (int bad : NO_STATE) {
+            CHECK.refused("length(1, " + bad + ")", INDEX, () -> logic.length(1, bad));
+            CHECK.refused("witness(1, " + bad + ", 0)", INDEX, () -> logic.witness(1, bad, 0));
+            CHECK.refused("no UNTIL, no state", INDEX, () -> logic.length(0, bad));
+            CHECK.refused("no UNTIL, no state", INDEX, () -> logic.witness(0, bad, 0));
+        }
+        CHECK.refused("no UNTIL", ARGUMENT, () -> logic.length(0, 0));
+        CHECK.refused("no UNTIL", ARGUMENT, () -> logic.witness(0, 1, 0));
+        CHECK.refused("no UNTIL, no such one", ARGUMENT, () -> logic.witness(0, 0, -1));
+        for (int kind : new int[] {1, 2, 3, 4, 6, 7}) {
+            int other = logic.formula(kind, 0, 0);
+            CHECK.refused("length of kind " + kind, ARGUMENT, () -> logic.length(other, 0));
+            CHECK.refused("witness of kind " + kind, ARGUMENT, () -> logic.witness(other, 0, 0));
+        }
+        CHECK.same("state 0 of it", logic.witness(1, 1, 0), 1);
+        for (int bad : new int[] {1, -1, 256, Integer.MAX_VALUE, Integer.MIN_VALUE}) {
+            CHECK.refused("witness(1, 1, " + bad + ")", ELEMENT, () -> logic.witness(1, 1, bad));
+        }
+        CHECK.refused("it doesn't hold", ELEMENT, () -> logic.witness(1, 0, 0));
+        CHECK.refused("it doesn't hold", ELEMENT, () -> logic.witness(1, 0, -1));
+        CHECK.same("it doesn't hold", logic.length(1, 0), 0);
+    }
+}
