@@ -91,6 +91,7 @@ public final class StateLogic {
         requireFormula(formula);
         requireState(state);
         requireUntil(formula);
+        formulas.settle(formula);
         return formulas.rowLength(formula, state);
     }
 
@@ -99,6 +100,7 @@ public final class StateLogic {
         requireFormula(formula);
         requireState(state);
         requireUntil(formula);
+        formulas.settle(formula);
         if (k < 0 || k >= formulas.rowLength(formula, state)) {
             throw new NoSuchElementException("the witness has no such state");
         }
@@ -268,24 +270,24 @@ public final class StateLogic {
         final int[] distances = new int[MOST_STATES];
         final int[] path = new int[MOST_STATES];
         final int[] ended = new int[MOST_STATES];
-        int founds;
+        int foundCount;
 
         void openAll(Sets sets, int set) {
             open.copy(0, sets, set);
-            founds = 0;
+            foundCount = 0;
         }
 
         void find(int state, int distance) {
-            if (founds < MOST_STATES) {
-                found[founds] = state;
-                founds++;
+            if (foundCount < MOST_STATES) {
+                found[foundCount] = state;
+                foundCount++;
                 distances[state] = distance;
             }
         }
 
         /** Finds all that the states found so far lead to, the nearest first. */
         void spread(Sets steps) {
-            for (int at = 0; at < founds && at < MOST_STATES; at++) {
+            for (int at = 0; at < foundCount && at < MOST_STATES; at++) {
                 int from = found[at];
                 int state = open.takeShared(0, steps, from);
                 for (int turn = 0; state != NONE && turn < MOST_STATES; turn++) {
@@ -440,15 +442,8 @@ public final class StateLogic {
             }
         }
 
-        private void evaluateUntil(int formula) {
-            measure(formula);
-            for (int at = 0; at < search.founds; at++) {
-                truth.put(formula, search.found[at]);
-            }
-        }
-
         /** Finds, from the states of y back through those of x, how many steps each has to go. */
-        private void measure(int formula) {
+        private void evaluateUntil(int formula) {
             search.openAll(truth, xs[formula]);
             for (int state = 0; state < machine.states; state++) {
                 search.distances[state] = NONE;
@@ -458,7 +453,14 @@ public final class StateLogic {
                 }
             }
             search.spread(machine.predecessors);
+            putFound(formula);
             measured = formula;
+        }
+
+        private void putFound(int formula) {
+            for (int at = 0; at < search.foundCount; at++) {
+                truth.put(formula, search.found[at]);
+            }
         }
 
         /**
@@ -475,7 +477,7 @@ public final class StateLogic {
                 int root = search.ended[at];
                 if (search.open.has(0, root)) {
                     search.open.drop(0, root);
-                    search.founds = 0;
+                    search.foundCount = 0;
                     search.find(root, 0);
                     search.spread(machine.successors);
                     evaluateRing(formula, root);
@@ -487,25 +489,22 @@ public final class StateLogic {
         private void evaluateRing(int formula, int root) {
             boolean leads = false;
             boolean hasY = false;
-            for (int at = 0; at < search.founds; at++) {
+            for (int at = 0; at < search.foundCount; at++) {
                 int state = search.found[at];
                 leads |= machine.successors.meets(state, truth, formula);
                 hasY |= truth.has(ys[formula], state);
             }
             // A state alone is a ring too, but one to go round only if it goes to itself.
-            boolean goesRound = search.founds > 1 || machine.successors.has(root, root);
+            boolean goesRound = search.foundCount > 1 || machine.successors.has(root, root);
             if (leads || (hasY && goesRound)) {
-                for (int at = 0; at < search.founds; at++) {
-                    truth.put(formula, search.found[at]);
-                }
+                putFound(formula);
             }
         }
 
-        /** How many states the witness of an UNTIL has; leaves its distances in the search. */
+        /** How many states the witness of a settled UNTIL has; leaves its distances in the search. */
         int rowLength(int formula, int state) {
-            settle(formula);
             if (measured != formula) {
-                measure(formula);
+                evaluateUntil(formula);
             }
             int distance = search.distances[state];
             return distance == NONE ? 0 : distance + 1;

@@ -20,6 +20,7 @@ public final class AskTest {
         askersRefuse();
         leastOfShortestRows();
         longestRow();
+        longestRing();
         witnessAfterOtherFormulas();
         rowAskersRefuse();
         CHECK.end();
@@ -219,14 +220,19 @@ public final class AskTest {
         CHECK.same("x bars s", Check.row(logic, 5, 5), "");
     }
 
-    private static void longestRow() {
+    /** Each state but 255 goes to the next one: the lowest bit that is 0 becomes 1, those below it 0. */
+    private static StateLogic counter() {
         StateLogic logic = new StateLogic();
         logic.begin(8);
-        // A counter: the lowest bit that is 0 becomes 1, those below it 0.
         for (int bit = 0; bit < 8; bit++) {
             int mask = (2 << bit) - 1;
             logic.rule(mask, mask >> 1, 255 & ~mask, 1 << bit);
         }
+        return logic;
+    }
+
+    private static void longestRow() {
+        StateLogic logic = counter();
         logic.formula(0, 0, 0);
         logic.formula(0, 255, 255);
         logic.formula(5, 0, 1);
@@ -244,6 +250,25 @@ public final class AskTest {
         logic.formula(1, 1, 0);
         logic.formula(7, 0, 5);
         CHECK.same("another than 255 again", logic.count(6), 0);
+    }
+
+    private static void longestRing() {
+        StateLogic logic = counter();
+        logic.rule(255, 255, 0, 0);
+        logic.formula(0, 0, 0);
+        logic.formula(0, 255, 128);
+        logic.formula(1, 1, 0);
+        logic.formula(6, 0, 0);
+        logic.formula(7, 0, 1);
+        logic.formula(6, 2, 0);
+        logic.formula(7, 2, 0);
+        logic.formula(5, 0, 1);
+        CHECK.same("round all states", logic.count(3), 256);
+        CHECK.same("by way of one", logic.count(4), 256);
+        CHECK.same("not without it", logic.count(5) + logic.count(6), 0);
+        CHECK.same("all but once round", logic.length(7, 129), 256);
+        CHECK.same("past 255", logic.witness(7, 129, 127), 0);
+        CHECK.same("to the last one", logic.witness(7, 129, 255), 128);
     }
 
     private static void witnessAfterOtherFormulas() {

@@ -50,7 +50,7 @@ public final class PlainLogicTest {
     private void addRule() {
         int all = (1 << bits) - 1;
         // Narrow masks join many states, wide ones few: both make other machines.
-        int mask = random.nextBoolean() ? random.nextInt(all + 1) : random.nextInt(all + 1) | random.nextInt(all + 1);
+        int mask = random.nextInt(all + 1) | (random.nextBoolean() ? random.nextInt(all + 1) : 0);
         int value = mask & random.nextInt(all + 1);
         int keep = random.nextBoolean() ? all & ~(1 << random.nextInt(bits)) : random.nextInt(all + 1);
         int flip = random.nextBoolean() ? 1 << random.nextInt(bits) : random.nextInt(all + 1);
