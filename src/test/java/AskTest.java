@@ -21,6 +21,7 @@ public final class AskTest {
         leastOfShortestRows();
         longestRow();
         longestRing();
+        longestRowDown();
         witnessAfterOtherFormulas();
         rowAskersRefuse();
         CHECK.end();
@@ -269,6 +270,28 @@ public final class AskTest {
         CHECK.same("all but once round", logic.length(7, 129), 256);
         CHECK.same("past 255", logic.witness(7, 129, 127), 0);
         CHECK.same("to the last one", logic.witness(7, 129, 255), 128);
+    }
+
+    private static void longestRowDown() {
+        StateLogic logic = new StateLogic();
+        logic.begin(8);
+        for (int bit = 0; bit < 8; bit++) {
+            int mask = (2 << bit) - 1;
+            logic.rule(mask, 1 << bit, 255 & ~mask, mask >> 1);
+        }
+        logic.rule(255, 0, 0, 0);
+        logic.formula(0, 0, 0);
+        logic.formula(0, 255, 0);
+        logic.formula(1, 1, 0);
+        logic.formula(7, 0, 1);
+        logic.formula(7, 0, 2);
+        logic.formula(6, 0, 0);
+        logic.formula(5, 0, 1);
+        CHECK.same("down to 0, which goes to itself", logic.count(3), 256);
+        CHECK.same("another than 0 again", logic.count(4), 0);
+        CHECK.same("all are endless", logic.count(5), 256);
+        CHECK.same("256 states down", logic.length(6, 255), 256);
+        CHECK.same("the last one", logic.witness(6, 255, 255), 0);
     }
 
     private static void witnessAfterOtherFormulas() {
