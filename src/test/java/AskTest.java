@@ -1,13 +1,6 @@
-import java.util.NoSuchElementException;
-
-/** Promises 5 to 9: holds, count, first, length, witness, and what each kind of formula means. */
+/** Promises 5 to 9 and what each kind of formula means; AskEdgeTest has their boundaries. */
 public final class AskTest {
     private static final Check CHECK = new Check();
-    private static final Class<IllegalArgumentException> ARGUMENT = IllegalArgumentException.class;
-    private static final Class<IndexOutOfBoundsException> INDEX = IndexOutOfBoundsException.class;
-    private static final Class<NoSuchElementException> ELEMENT = NoSuchElementException.class;
-    private static final int[] NO_FORMULA = {2, -1, 60, Integer.MAX_VALUE, Integer.MIN_VALUE};
-    private static final int[] NO_STATE = {8, -1, 256, Integer.MAX_VALUE, Integer.MIN_VALUE};
 
     public static void main(String[] args) {
         kindsWithoutSteps();
@@ -17,13 +10,11 @@ public final class AskTest {
         again();
         rulesOfNow();
         firstLooksFromAState();
-        askersRefuse();
         leastOfShortestRows();
         longestRow();
         longestRing();
         longestRowDown();
         witnessAfterOtherFormulas();
-        rowAskersRefuse();
         CHECK.end();
     }
 
@@ -181,22 +172,6 @@ public final class AskTest {
         CHECK.same("no state beyond the last", logic.first(1, 1), StateLogic.NONE);
     }
 
-    private static void askersRefuse() {
-        StateLogic logic = new StateLogic();
-        logic.begin(3);
-        logic.formula(0, 0, 0);
-        logic.formula(5, 0, 0);
-        for (int bad : NO_FORMULA) {
-            CHECK.refused("holds(" + bad + ", 0)", INDEX, () -> logic.holds(bad, 0));
-            CHECK.refused("count(" + bad + ")", INDEX, () -> logic.count(bad));
-            CHECK.refused("first(" + bad + ", 0)", INDEX, () -> logic.first(bad, 0));
-        }
-        for (int bad : NO_STATE) {
-            CHECK.refused("holds(0, " + bad + ")", INDEX, () -> logic.holds(0, bad));
-            CHECK.refused("first(0, " + bad + ")", INDEX, () -> logic.first(0, bad));
-        }
-    }
-
     private static void leastOfShortestRows() {
         StateLogic logic = new StateLogic();
         logic.begin(4);
@@ -241,7 +216,6 @@ public final class AskTest {
         for (int k = 0; k < 256; k++) {
             CHECK.same("state " + k, logic.witness(2, 0, k), k);
         }
-        CHECK.refused("state 256", ELEMENT, () -> logic.witness(2, 0, 256));
         logic.formula(6, 0, 0);
         logic.formula(7, 0, 1);
         CHECK.same("it ends", logic.count(3) + logic.count(4), 0);
@@ -317,39 +291,5 @@ public final class AskTest {
         logic.formula(5, 0, 1);
         CHECK.same("the same number, anew", Check.row(logic, 3, 0), "0");
         CHECK.same("no row to 0", logic.length(3, 3), 0);
-    }
-
-    private static void rowAskersRefuse() {
-        StateLogic logic = new StateLogic();
-        logic.begin(3);
-        step(logic, 7, 0, 1);
-        logic.formula(0, 7, 1);
-        logic.formula(5, 0, 0);
-        for (int bad : NO_FORMULA) {
-            CHECK.refused("length(" + bad + ", 0)", INDEX, () -> logic.length(bad, 0));
-            CHECK.refused("witness(" + bad + ", 0, 0)", INDEX, () -> logic.witness(bad, 0, 0));
-            CHECK.refused("witness(" + bad + ", 8, -1)", INDEX, () -> logic.witness(bad, 8, -1));
-        }
-        for (int bad : NO_STATE) {
-            CHECK.refused("length(1, " + bad + ")", INDEX, () -> logic.length(1, bad));
-            CHECK.refused("witness(1, " + bad + ", 0)", INDEX, () -> logic.witness(1, bad, 0));
-            CHECK.refused("no UNTIL, no state", INDEX, () -> logic.length(0, bad));
-            CHECK.refused("no UNTIL, no state", INDEX, () -> logic.witness(0, bad, 0));
-        }
-        CHECK.refused("no UNTIL", ARGUMENT, () -> logic.length(0, 0));
-        CHECK.refused("no UNTIL", ARGUMENT, () -> logic.witness(0, 1, 0));
-        CHECK.refused("no UNTIL, no such one", ARGUMENT, () -> logic.witness(0, 0, -1));
-        for (int kind : new int[] {1, 2, 3, 4, 6, 7}) {
-            int other = logic.formula(kind, 0, 0);
-            CHECK.refused("length of kind " + kind, ARGUMENT, () -> logic.length(other, 0));
-            CHECK.refused("witness of kind " + kind, ARGUMENT, () -> logic.witness(other, 0, 0));
-        }
-        CHECK.same("state 0 of it", logic.witness(1, 1, 0), 1);
-        for (int bad : new int[] {1, -1, 256, Integer.MAX_VALUE, Integer.MIN_VALUE}) {
-            CHECK.refused("witness(1, 1, " + bad + ")", ELEMENT, () -> logic.witness(1, 1, bad));
-        }
-        CHECK.refused("it doesn't hold", ELEMENT, () -> logic.witness(1, 0, 0));
-        CHECK.refused("it doesn't hold", ELEMENT, () -> logic.witness(1, 0, -1));
-        CHECK.same("it doesn't hold", logic.length(1, 0), 0);
     }
 }

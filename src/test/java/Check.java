@@ -1,10 +1,23 @@
 /** Counts the answers that aren't as due, prints each, and ends a test with exit code 1 if there is one. */
 final class Check {
+    private static final String NOTHING = "nothing thrown";
+
     private int wrong;
+    private String sentence = "";
 
     /** A call that is expected to throw. */
     interface Call {
         void run();
+    }
+
+    /** Runs the test of one sentence of the document, which is told with each answer that is wrong. */
+    void run(String place, String words, Call test) {
+        sentence = place + ", \"" + words + "\": ";
+        String got = outcome(test);
+        if (!got.equals(NOTHING)) {
+            tell("a call that is to answer threw " + got);
+        }
+        sentence = "";
     }
 
     void same(String what, long got, long due) {
@@ -27,15 +40,16 @@ final class Check {
 
     /** Asks for the very class: an ArrayIndexOutOfBoundsException of the machine's own won't do. */
     void refused(String what, Class<? extends RuntimeException> due, Call call) {
-        String got = "nothing";
+        same(what, outcome(call), due.getName());
+    }
+
+    private static String outcome(Call call) {
         try {
             call.run();
         } catch (RuntimeException thrown) {
-            got = thrown.getClass().getName();
+            return thrown.getClass().getName();
         }
-        if (!got.equals(due.getName())) {
-            tell(what + " threw " + got + ", due is " + due.getName());
-        }
+        return NOTHING;
     }
 
     /** The states in which a formula holds, as holds() tells them. */
@@ -69,7 +83,7 @@ final class Check {
     private void tell(String line) {
         wrong++;
         if (wrong <= 50) {
-            System.out.println(line);
+            System.out.println(sentence + line);
         }
     }
 }

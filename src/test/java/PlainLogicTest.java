@@ -1,128 +1,153 @@
 import java.util.Random;
+import java.util.function.Supplier;
 
-/** Many machines and formulas, always the same ones, held against PlainLogic (promises 2 to 10). */
+/** Runs of 512 calls, always the same ones, right and wrong arguments mixed, held against PlainLogic. */
 public final class PlainLogicTest {
     private static final Check CHECK = new Check();
     private static final int RUNS = 400;
+    private static final int CALLS = 512;
+    private static final int[] WRONG = {0, -1, 8, 9, 60, 255, 256, Integer.MAX_VALUE, Integer.MIN_VALUE};
+
+    private final int run;
+    private final Random random;
+    private final StateLogic logic = new StateLogic();
+    private final PlainLogic plain = new PlainLogic();
+    private int bits = 1;
+    private int calls;
+
+    private PlainLogicTest(int run) {
+        this.run = run;
+        random = new Random(run);
+    }
 
     public static void main(String[] args) {
-        StateLogic used = new StateLogic();
         for (int run = 0; run < RUNS; run++) {
-            // Every other run takes an object that has had another machine before.
-            new PlainLogicTest(run, run % 2 == 0 ? new StateLogic() : used).compare();
+            new PlainLogicTest(run).compareRun();
         }
         CHECK.end();
     }
 
-    private final int run;
-    private final Random random;
-    private final StateLogic logic;
-    private final int bits;
-    private final PlainLogic plain;
-    private final boolean[] untils = new boolean[60];
-    private int formulas;
-
-    private PlainLogicTest(int run, StateLogic logic) {
-        this.run = run;
-        this.logic = logic;
-        random = new Random(run);
-        bits = run % 20 == 0 ? 8 : 1 + random.nextInt(6);
-        plain = new PlainLogic(bits);
-        logic.begin(bits);
-    }
-
-    private void compare() {
-        int stages = bits == 8 ? 2 : 4;
-        for (int stage = 0; stage < stages; stage++) {
-            for (int more = random.nextInt(bits < 3 ? 2 : bits + 2); more > 0; more--) {
-                addRule();
-            }
-            if (stage == 0 && random.nextInt(3) == 0) {
-                addCounter();
-            }
-            for (int more = 3 + random.nextInt(10); more > 0; more--) {
-                addFormula();
-            }
-            compareAnswers();
+    private void compareRun() {
+        begin(run % 40 == 0 ? 8 : 1 + random.nextInt(5));
+        if (run % 3 == 0) {
+            addCounter();
+        }
+        while (calls < CALLS) {
+            callOne();
         }
     }
 
-    private void addRule() {
-        int all = (1 << bits) - 1;
-        // Narrow masks join many states, wide ones few: both make other machines.
-        int mask = random.nextInt(all + 1) | (random.nextBoolean() ? random.nextInt(all + 1) : 0);
-        int value = mask & random.nextInt(all + 1);
-        int keep = random.nextBoolean() ? all & ~(1 << random.nextInt(bits)) : random.nextInt(all + 1);
-        int flip = random.nextBoolean() ? 1 << random.nextInt(bits) : random.nextInt(all + 1);
-        logic.rule(mask, value, keep, flip);
-        plain.rule(mask, value, keep, flip);
+    private void callOne() {
+        int turn = random.nextInt(200);
+        // Some runs have rules enough to come to their limit, and then keep them.
+        boolean manyRules = run % 5 == 0;
+        if (turn == 0 && !manyRules) {
+            begin(random.nextInt(10) == 0 ? 6 : 1 + random.nextInt(5));
+        } else if (turn < (manyRules ? 25 : 14)) {
+            rule();
+        } else if (turn < 45) {
+            formula();
+        } else {
+            ask(turn % 6);
+        }
     }
 
+    private void begin(int right) {
+        int n = orWrong(right);
+        compare("begin(" + n + ")", () -> {
+            logic.begin(n);
+            return 0;
+        }, () -> {
+            plain.begin(n);
+            return 0;
+        });
+        bits = n >= 1 && n <= 8 ? n : bits;
+    }
+
+    private void rule() {
+        // Narrow masks join many states, wide ones few: both make other machines.
+        int mask = orWrong(someState() | (random.nextBoolean() ? someState() : 0));
+        int value = orWrong(random.nextInt(20) == 0 ? someState() : mask & someState());
+        int bit = 1 << random.nextInt(bits);
+        int keep = orWrong(random.nextBoolean() ? ((1 << bits) - 1) & ~bit : someState());
+        int flip = orWrong(random.nextBoolean() ? bit : someState());
+        rule(mask, value, keep, flip);
+    }
+
+    private void rule(int mask, int value, int keep, int flip) {
+        compare("rule(" + mask + ", " + value + ", " + keep + ", " + flip + ")",
+                () -> logic.rule(mask, value, keep, flip), () -> plain.rule(mask, value, keep, flip));
+    }
+
+    /** Each state goes to the next one, but for the last: long rows. */
     private void addCounter() {
         int all = (1 << bits) - 1;
         for (int bit = 0; bit < bits; bit++) {
             int mask = (2 << bit) - 1;
-            logic.rule(mask, mask >> 1, all & ~mask, 1 << bit);
-            plain.rule(mask, mask >> 1, all & ~mask, 1 << bit);
+            rule(mask, mask >> 1, all & ~mask, 1 << bit);
         }
     }
 
-    private void addFormula() {
-        int kind = formulas == 0 || random.nextInt(4) == 0 ? 0 : 1 + random.nextInt(7);
-        int all = (1 << bits) - 1;
-        int x = kind == 0 ? random.nextInt(all + 1) & random.nextInt(all + 1) : random.nextInt(formulas);
-        int y = kind == 0 ? x & random.nextInt(all + 1) : random.nextInt(formulas);
-        CHECK.same("run " + run + ": formula", logic.formula(kind, x, y), formulas);
-        plain.formula(kind, x, y);
-        untils[formulas] = kind == 5;
-        formulas++;
+    private void formula() {
+        int kind = orWrong(plain.formulas() == 0 || random.nextInt(4) == 0 ? 0 : 1 + random.nextInt(7));
+        int mask = someState() & someState();
+        int x = orWrong(kind == 0 ? mask : someFormula());
+        int y = orWrong(kind == 0 ? mask & someState() : someFormula());
+        compare("formula(" + kind + ", " + x + ", " + y + ")",
+                () -> logic.formula(kind, x, y), () -> plain.formula(kind, x, y));
     }
 
-    private void compareAnswers() {
-        boolean[][] steps = plain.steps();
-        for (int state = 0; state < 1 << bits; state++) {
-            int ways = 0;
-            for (boolean goes : steps[state]) {
-                ways += goes ? 1 : 0;
-            }
-            CHECK.same("run " + run + ": ways(" + state + ")", logic.ways(state), ways);
-        }
-        int asked = bits == 8 ? Math.min(4, formulas) : formulas;
-        for (int turn = 0; turn < asked; turn++) {
-            // Not in their order, so that parts are asked for before and behind what has them.
-            int formula = bits == 8 ? formulas - 1 - turn : (turn * 53 + 3) % formulas;
-            compareTruth(formula, steps);
-            if (untils[formula]) {
-                compareRows(formula, steps);
-            }
+    private void ask(int what) {
+        int formula = orWrong(what == 3 || what == 4 ? someUntil() : someFormula());
+        int state = orWrong(someState());
+        int k = orWrong(random.nextInt(random.nextBoolean() ? 3 : 1 << bits));
+        String asked = formula + ", " + state;
+        switch (what) {
+            case 0 -> compare("holds(" + asked + ")",
+                    () -> logic.holds(formula, state), () -> plain.holds(formula, state));
+            case 1 -> compare("count(" + formula + ")",
+                    () -> logic.count(formula), () -> plain.count(formula));
+            case 2 -> compare("first(" + asked + ")",
+                    () -> logic.first(formula, state), () -> plain.first(formula, state));
+            case 3 -> compare("length(" + asked + ")",
+                    () -> logic.length(formula, state), () -> plain.length(formula, state));
+            case 4 -> compare("witness(" + asked + ", " + k + ")",
+                    () -> logic.witness(formula, state, k), () -> plain.witness(formula, state, k));
+            default -> compare("ways(" + state + ")", () -> logic.ways(state), () -> plain.ways(state));
         }
     }
 
-    private void compareTruth(int formula, boolean[][] steps) {
-        String call = "run " + run + ": formula " + formula;
-        boolean[] truth = plain.truth(formula, steps);
-        int count = 0;
-        int first = StateLogic.NONE;
-        for (int state = truth.length - 1; state >= 0; state--) {
-            count += truth[state] ? 1 : 0;
-            first = truth[state] ? state : first;
-            CHECK.same(call + " holds in " + state, logic.holds(formula, state), truth[state]);
-            CHECK.same(call + " first from " + state, logic.first(formula, state), first);
-        }
-        CHECK.same(call + " count", logic.count(formula), count);
+    private int someState() {
+        return random.nextInt(1 << bits);
     }
 
-    private void compareRows(int formula, boolean[][] steps) {
-        for (int asked = 0; asked < 6; asked++) {
-            int state = random.nextInt(1 << bits);
-            String call = "run " + run + ": formula " + formula + " from " + state;
-            int[] row = plain.witness(formula, state, steps);
-            CHECK.same(call + " length", logic.length(formula, state), row.length);
-            for (int k = row.length - 1; k >= 0; k--) {
-                CHECK.same(call + " state " + k, logic.witness(formula, state, k), row[k]);
-            }
-            CHECK.refused(call + " beyond", java.util.NoSuchElementException.class,
-                    () -> logic.witness(formula, state, row.length));
+    private int someFormula() {
+        return random.nextInt(Math.max(1, plain.formulas()));
+    }
+
+    /** An UNTIL if one is met soon, else another formula. */
+    private int someUntil() {
+        int formula = someFormula();
+        for (int tries = 0; tries < 8 && !plain.isUntil(formula); tries++) {
+            formula = someFormula();
+        }
+        return formula;
+    }
+
+    private int orWrong(int right) {
+        return random.nextInt(60) == 0 ? WRONG[random.nextInt(WRONG.length)] : right;
+    }
+
+    private void compare(String call, Supplier<Object> got, Supplier<Object> due) {
+        calls++;
+        CHECK.same("run " + run + ", call " + calls + ", " + call, outcome(got), outcome(due));
+    }
+
+    private static String outcome(Supplier<Object> call) {
+        try {
+            return String.valueOf(call.get());
+        } catch (RuntimeException thrown) {
+            return thrown.getClass().getName();
         }
     }
 }
