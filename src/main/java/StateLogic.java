@@ -491,8 +491,8 @@ public final class StateLogic {
             boolean hasY = false;
             for (int at = 0; at < search.foundCount; at++) {
                 int state = search.found[at];
-                leads |= machine.successors.meets(state, truth, formula);
-                hasY |= truth.has(ys[formula], state);
+                leads = leads || machine.successors.meets(state, truth, formula);
+                hasY = hasY || truth.has(ys[formula], state);
             }
             // A state alone is a ring too, but one to go round only if it goes to itself.
             boolean goesRound = search.foundCount > 1 || machine.successors.has(root, root);

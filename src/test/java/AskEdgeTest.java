@@ -31,6 +31,7 @@ public final class AskEdgeTest {
                 AskEdgeTest::fewestStates);
         CHECK.run("Terms 2", "of several the one whose second state is the least, then the third one",
                 AskEdgeTest::leastSecondThenThird);
+        CHECK.run("Promise 5", "Whether a formula holds in a state.", AskEdgeTest::holdsFromFirstToLast);
         CHECK.run("Promise 5", "IndexOutOfBoundsException if there is no such formula",
                 AskEdgeTest::holdsOfNoFormula);
         CHECK.run("Promise 5", "IndexOutOfBoundsException if there is no such .. state",
@@ -286,6 +287,22 @@ public final class AskEdgeTest {
         CHECK.same("the last one counts too", Check.row(logic, ends, 4), "4 8 12");
         step(logic, 15, 8, 13);
         CHECK.same("12 before 13", Check.row(logic, ends, 8), "8 12");
+    }
+
+    /** The first and the last state of all machines, and those beside each 64th one. */
+    private static void holdsFromFirstToLast() {
+        for (int n = 1; n <= 8; n++) {
+            int last = (1 << n) - 1;
+            for (int state : new int[] {0, 1, 63, 64, 127, 128, 191, 192, last}) {
+                if (state <= last) {
+                    StateLogic logic = new StateLogic();
+                    logic.begin(n);
+                    logic.formula(0, last, state);
+                    String due = String.valueOf(state);
+                    CHECK.same(n + " bits, " + state + " alone", Check.states(logic, 0, last + 1), due);
+                }
+            }
+        }
     }
 
     private static void holdsOfNoFormula() {

@@ -8,6 +8,7 @@ public final class AskTest {
         until();
         always();
         again();
+        againFromAnyOfARing();
         rulesOfNow();
         firstLooksFromAState();
         leastOfShortestRows();
@@ -127,6 +128,26 @@ public final class AskTest {
         logic.formula(0, 15, 7);
         logic.formula(7, 0, 11);
         CHECK.same("AGAIN: y that ends", Check.states(logic, 12, 16), "");
+    }
+
+    /** Three states go round; in turn each of them is the one with y, and the one with a way out. */
+    private static void againFromAnyOfARing() {
+        for (int one = 8; one <= 10; one++) {
+            StateLogic logic = new StateLogic();
+            logic.begin(4);
+            step(logic, 15, 8, 9);
+            step(logic, 15, 9, 10);
+            step(logic, 15, 10, 8);
+            step(logic, 15, one, 3);
+            step(logic, 15, 3, 3);
+            logic.formula(0, 0, 0);
+            logic.formula(0, 15, 3);
+            logic.formula(7, 0, 1);
+            CHECK.same("AGAIN: the way out from " + one, Check.states(logic, 2, 16), "3 8 9 10");
+            logic.formula(0, 15, one);
+            logic.formula(7, 0, 3);
+            CHECK.same("AGAIN: round by way of " + one, Check.states(logic, 4, 16), "8 9 10");
+        }
     }
 
     private static void rulesOfNow() {

@@ -13,6 +13,8 @@ public final class BuildEdgeTest {
         CHECK.run("Terms 1", "There are at most 40", BuildEdgeTest::atMostFortyRules);
         CHECK.run("Terms", "The constants: `NONE = -1`", BuildEdgeTest::constants);
         CHECK.run("Promise 1", "One bit, no rules, no formulas.", BuildEdgeTest::newObject);
+        CHECK.run("Promise 1", "One bit, no rules, no formulas (whatever another object has)",
+                BuildEdgeTest::newObjectBesideAnother);
         CHECK.run("Promise 2", "A machine of n bits, no rules, no formulas.", BuildEdgeTest::beginAnew);
         CHECK.run("Promise 2", "IllegalArgumentException if n isn't 1 .. 8.",
                 BuildEdgeTest::beginWithoutSuchBits);
@@ -23,6 +25,8 @@ public final class BuildEdgeTest {
                 BuildEdgeTest::ruleOfAValueBeyondTheMask);
         CHECK.run("Promise 3", "UnsupportedOperationException if there are 40.",
                 BuildEdgeTest::ruleWhenThereAreForty);
+        CHECK.run("Promise 4", "A formula (of kind 0 the mask and the value): its number.",
+                BuildEdgeTest::formulaNumbers);
         CHECK.run("Promise 4", "IllegalArgumentException if there is no such kind",
                 BuildEdgeTest::formulaOfNoKind);
         CHECK.run("Promise 4", "or a formula that it has isn't there", BuildEdgeTest::formulaOfAPartNotThere);
@@ -125,6 +129,25 @@ public final class BuildEdgeTest {
         CHECK.same("its way", logic.ways(1), 1);
     }
 
+    private static void newObjectBesideAnother() {
+        StateLogic other = new StateLogic();
+        other.begin(8);
+        for (int number = 0; number < 40; number++) {
+            other.rule(0, 0, 0, number);
+        }
+        for (int number = 0; number < 60; number++) {
+            other.formula(0, 0, 0);
+        }
+        StateLogic logic = new StateLogic();
+        CHECK.same("no rule", logic.ways(1), 0);
+        CHECK.refused("no state 2", INDEX, () -> logic.ways(2));
+        CHECK.refused("no formula 0", INDEX, () -> logic.count(0));
+        CHECK.same("the first formula", logic.formula(0, 1, 1), 0);
+        CHECK.same("the first rule", logic.rule(0, 0, 1, 0), 0);
+        CHECK.same("the other one's ways", other.ways(255), 40);
+        CHECK.same("the other one's formula 0", other.count(0), 256);
+    }
+
     private static void beginAnew() {
         StateLogic logic = new StateLogic();
         for (int n : new int[] {8, 1, 8, 8}) {
@@ -224,6 +247,19 @@ public final class BuildEdgeTest {
         CHECK.same("none was added", logic.ways(1), 1);
         logic.begin(1);
         CHECK.same("after begin()", logic.rule(1, 1, 0, 1), 0);
+    }
+
+    private static void formulaNumbers() {
+        StateLogic logic = new StateLogic();
+        logic.begin(8);
+        CHECK.same("mask and value aren't formulas", logic.formula(0, 255, 254), 0);
+        for (int kind = 1; kind <= 7; kind++) {
+            CHECK.same("of kind " + kind, logic.formula(kind, kind - 1, 0), kind);
+        }
+        CHECK.same("the mask comes first, then the value", logic.first(0, 0), 254);
+        CHECK.same("no other state", logic.count(0), 1);
+        logic.begin(8);
+        CHECK.same("the first one after begin()", logic.formula(0, 255, 0), 0);
     }
 
     private static void formulaOfNoKind() {
